@@ -35,7 +35,7 @@ public final class BlameDesk {
         error = NONE;
     }
 
-    /** Appends the bytes of w that are not 0 to the text; false, changing nothing, if one is no character or there are too many. */
+    /** Appends the bytes of w that are not 0 to the text; false if one is no character, or they are too many. */
     public boolean write(long w) {
         return reader.append(w);
     }

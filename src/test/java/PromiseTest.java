@@ -66,7 +66,8 @@ public final class PromiseTest {
         for (int code : new int[] {1, 31, 127, 128, 255}) {
             for (int shift = 0; shift < 64; shift += 8) {
                 DUE.is("write code " + code, desk.write((long) code << shift), false);
-                DUE.is("write code " + code + " and 2", desk.write((long) code << shift | 0x32L << (shift + 8) % 64), false);
+                long with2 = (long) code << shift | 0x32L << (shift + 8) % 64;
+                DUE.is("write code " + code + " and 2", desk.write(with2), false);
             }
         }
         DUE.is("write 2}", desk.write(0x327dL), true);
@@ -97,17 +98,22 @@ public final class PromiseTest {
 
     private static void checkRefusesWhatIsNoExpression() {
         String[] texts = {
-            "", " ", "1234", "0000", "-1", "A", "TT", "xy", "1 ", " 1", "\\x:i", "\\x:i.", "\\x.x", "\\X:i.1", "\\1:i.1",
-            "\\x:i .1", "\\:i.1", "\\x:x.x", "\\x:(i>b.x", "\\x:(i>).x", "\\x:(>i).x", "\\x:i>i.x", "\\x:&.x", "\\x:.x", "\\x:((i>b)).x",
-            "(1 2", "(1  2)", "(1)", "()", "(1 )", "( 1)", "(1=2", "(1=)", "(=2)", "(1==2)", "(1= 2)", "(1+2)", "(1 2 3)",
+            "", " ", "1234", "0000", "-1", "A", "TT", "xy", "1 ", " 1",
+            "\\x:i", "\\x:i.", "\\x.x", "\\X:i.1", "\\1:i.1", "\\x:i .1", "\\:i.1", "\\x:x.x", "\\x:(i>b.x",
+            "\\x:(i>).x", "\\x:(>i).x", "\\x:i>i.x", "\\x:&.x", "\\x:.x", "\\x:((i>b)).x",
+            "(1 2", "(1  2)", "(1)", "()", "(1 )", "( 1)", "(1=2", "(1=)", "(=2)", "(1==2)",
+            "(1= 2)", "(1+2)", "(1 2 3)",
             "{1+2", "{1+}", "{+1}", "{1}", "{1 + 2}", "{1=2}", "{1>2}", "{1 2}", "{1+2+3}", "{1+2)",
-            "[T?1:2", "[T?1]", "[T:1?2]", "[T?1:]", "[T??1:2]", "[T? 1:2]", "[]", "@", "!", "$", "@ 1", "<1:i", "<1>", "<1:>", "<:i>", "<1:1>",
-            "<1:i>>", "1)", "1}", "x]", "$1$", "~", "#1",
+            "[T?1:2", "[T?1]", "[T:1?2]", "[T?1:]", "[T??1:2]", "[T? 1:2]", "[]", "@", "!", "$", "@ 1",
+            "<1:i", "<1>", "<1:>", "<:i>", "<1:1>", "<1:i>>", "1)", "1}", "x]", "$1$", "~", "#1",
         };
         for (String text : texts) {
             DUE.is("check of '" + text + "'", checkOf(text), 1);
         }
-        String[] right = {"0", "00", "007", "999", "T", "F", "\\x:i.x", "\\x:((i>b)>&?).x", "@1", "!@1", "$1", "(@1=2)", "{1<2}", "[T?1:2]", "<1:?>"};
+        String[] right = {
+            "0", "00", "007", "999", "T", "F", "\\x:i.x", "\\x:((i>b)>&?).x", "@1", "!@1", "$1", "(@1=2)", "(\\x:i.x 1)",
+            "{1+2}", "{1-2}", "{1<2}", "[T?1:2]", "<1:?>",
+        };
         for (String text : right) {
             DUE.is("check of '" + text + "'", checkOf(text), 0);
         }
