@@ -1,5 +1,3 @@
-import java.util.Arrays;
-
 /**
  * A small language with types that may be left open: a text is read and checked, casts are put in
  * where an open type meets another one, and it is run; where a cast fails, it is told which place of
@@ -838,7 +836,6 @@ public final class BlameDesk {
         }
 
         void clear() {
-            Arrays.fill(ring, 0);
             count = 0;
         }
 

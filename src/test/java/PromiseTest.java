@@ -319,6 +319,9 @@ public final class PromiseTest {
             DUE.is("run(" + fuel + ") of the loop", desk.run(fuel), 3);
             DUE.is("calls of the loop", desk.calls(), fuel);
         }
+        BlameDesk deep = Due.desk("(\\x:?.(x x) \\x:?." + "$".repeat(16) + "(x x))");
+        DUE.is("as many waiting expressions as there can be", deep.run(40), 3);
+        DUE.is("calls of the deep loop", deep.calls(), 40);
         BlameDesk two = Due.desk("(\\x:i.x (\\x:i.x 1))");
         DUE.is("two calls with 1", two.run(1), 3);
         DUE.is("two calls with 2", two.run(2), 1);
