@@ -1,5 +1,11 @@
 /** What the tests share: writing texts, comparing answers, and ending as the tests' form asks. */
 final class Due {
+    /** As many characters as a text can have: $ and sixteen sums around a number, which give 17 * 999. */
+    static final String FULL_TEXT = "$" + "{999+".repeat(16) + "999" + "}".repeat(16);
+
+    /** As long a text, with an error at its last position, 99. */
+    static final String FULL_TEXT_WITH_ERROR = "\\a:&i.".repeat(4) + "\\a:i.".repeat(15) + "y";
+
     private int wrong;
 
     void is(String what, long got, long want) {

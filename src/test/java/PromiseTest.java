@@ -2,9 +2,6 @@
 public final class PromiseTest {
     private static final Due DUE = new Due();
 
-    // 100 characters: $ and sixteen sums around a number.
-    private static final String FULL_TEXT = "$" + "{999+".repeat(16) + "999" + "}".repeat(16);
-
     public static void main(String[] args) {
         newObject();
         writeTakesCharacters();
@@ -80,13 +77,13 @@ public final class PromiseTest {
 
     private static void writeKeepsToTheRoom() {
         BlameDesk desk = new BlameDesk();
-        DUE.is("write 93", Due.write(desk, FULL_TEXT.substring(0, 93)), true);
+        DUE.is("write 93", Due.write(desk, Due.FULL_TEXT.substring(0, 93)), true);
         DUE.is("write 8 where there is room for 7", desk.write(Due.packed("9+99}}}}")), false);
-        DUE.is("write 7 where there is room for 7", desk.write(Due.packed(FULL_TEXT.substring(93))), true);
+        DUE.is("write 7 where there is room for 7", desk.write(Due.packed(Due.FULL_TEXT.substring(93))), true);
         DUE.is("write 1 where there is no room", desk.write(' '), false);
         DUE.is("write 0 where there is no room", desk.write(0), true);
         DUE.is("check of 100", desk.check(), 0);
-        DUE.is("write into the text emptied", Due.write(desk, FULL_TEXT), true);
+        DUE.is("write into the text emptied", Due.write(desk, Due.FULL_TEXT), true);
         DUE.is("the program stays while a text is written", desk.run(0), 1);
         DUE.is("result of 100", desk.result(1), 17 * 999);
         desk.check();
