@@ -215,6 +215,15 @@ public final class BoundaryTest {
         DUE.is("check of those 100", desk.check(), 0);
         DUE.is("check of the text emptied", desk.check(), 1);
         DUE.is("no program behind that", desk.run(0), -1);
+        // Nothing of a longer text before it is read.
+        BlameDesk shorter = checked("{12+345}", 0);
+        for (String text : new String[] {"{12+345", "{12+34", "{12+", "{12", "{"}) {
+            DUE.is("check of '" + text + "' behind longer ones", Due.check(shorter, text), 1);
+        }
+        DUE.is("check of '345'", Due.check(shorter, "345"), 0);
+        DUE.is("check of '6' behind '345'", Due.check(shorter, "6"), 0);
+        shorter.run(0);
+        DUE.is("result of '6' behind '345'", shorter.result(1), 6);
     }
 
     // "If it is no expression ...: 1"
@@ -236,6 +245,20 @@ public final class BoundaryTest {
         // What is no expression comes before what is an error.
         checked("(x y", 1);
         checked("{T+F}}", 1);
+        // As long a text as there can be, whole and not whole.
+        for (String end : new String[] {"7", "99", "999", "T", "@1", "<1:?>", "[T?1:2]"}) {
+            DUE.is("length of " + full(end), full(end).length(), 100);
+            checked(full(end), 0);
+        }
+        for (String end : new String[] {"\\", "\\x", "\\x:", "\\x:i", "\\x:i.", "\\x:&", "\\x:(", "\\x:(i", "\\x:(i>", "(1", "(1 ", "(1 2", "(@1=", "{",
+            "{1", "{1+", "{1+2", "[", "[T", "[T?", "[T?1", "[T?1:", "[T?1:2", "@", "!", "$", "<", "<1", "<1:", "<1:?"}) {
+            checked(full(end), 1);
+        }
+    }
+
+    /** A text of 100 characters that ends so: functions around it. */
+    private static String full(String end) {
+        return "\\a:" + "&".repeat(15 - end.length()) + "i." + "\\a:i.".repeat(16) + end;
     }
 
     // "... (also by what is too deep) ..."

@@ -10,6 +10,7 @@ public final class TermsTest {
 
     public static void main(String[] args) {
         fiveHundredAndTwelveCalls();
+        fiveHundredAndTwelveCallsWithManyTypes();
         theConstant();
         textHasAtMost100Characters();
         textHasCodes32To126();
@@ -23,6 +24,7 @@ public final class TermsTest {
         noneMoreThan20Deep();
         consistentTypes();
         groundTypes();
+        checkingGivesTypes();
         variableThatNoFunctionHas();
         callOfWhatIsNoFunction();
         writeToWhatIsNoCell();
@@ -35,6 +37,7 @@ public final class TermsTest {
         labelIsThePositionOfWhatSaysTheCast();
         partsFromTheLeftToTheRight();
         choiceWorksOutOneOfTwo();
+        lessIsNotEqual();
         bodyWhenItIsCalled();
         sumsAndDifferencesWrap();
         writePutsTheValueBehindItsCast();
@@ -51,6 +54,7 @@ public final class TermsTest {
         twoHundredCastsOfCells();
         twoHundredCastsOfFunctions();
         twoHundredCastsByReadsAndWrites();
+        twoHundredCastsAroundOneCell();
         roomIsCountedInThisRun();
         DUE.end();
     }
@@ -113,6 +117,25 @@ public final class TermsTest {
             DUE.is("check in round " + round, desk.check(), 0);
             DUE.is("run in round " + round, desk.run(40), 1);
             DUE.is("result in round " + round, desk.result(1), 17 * 999);
+        }
+    }
+
+    private static void fiveHundredAndTwelveCallsWithManyTypes() {
+        // Eight calls in each round: four writes, a check, and three others.
+        BlameDesk desk = new BlameDesk();
+        for (int round = 0; round < 64; round++) {
+            String type = "&".repeat(round % 8) + (round % 3 == 0 ? "(i>" : "(b>") + (round % 5 == 0 ? "(i>b))" : "&(?>b))");
+            String text = "\\x:" + type + ".\\y:&i.x";
+            while (text.length() < 25) {
+                text = "@" + text;
+            }
+            DUE.is("four writes in round " + round, Due.write(desk, text), true);
+            DUE.is("check in round " + round, desk.check(), 0);
+            int ats = text.indexOf('\\');
+            String due = "@".repeat(ats).replace('@', '&') + "(" + type + ">(&i>" + type + "))";
+            for (int k : new int[] {due.length() / 2, due.length() - 4, due.length()}) {
+                DUE.is("type(" + k + ") in round " + round, desk.type(k), k < due.length() ? due.charAt(k) : -1);
+            }
         }
     }
 
@@ -305,6 +328,41 @@ public final class TermsTest {
         }
     }
 
+    // "CHECKING an expression, from the left to the right, gives it a type ..."
+    private static void checkingGivesTypes() {
+        hasType("1", "i");
+        hasType("T", "b");
+        hasType("F", "b");
+        hasType("\\x:?.x", "(?>?)");
+        hasType("\\x:?.@x", "(?>&?)");
+        hasType("\\x:b.1", "(b>i)");
+        hasType("\\x:(?>?).\\y:&?.x", "((?>?)>(&?>(?>?)))");
+        hasType("(\\x:i.T 1)", "b");
+        hasType("(<1:?> 1)", "?");
+        hasType("(@1=<T:?>)", "i");
+        hasType("(<1:?>=1)", "?");
+        hasType("{<T:?>+1}", "i");
+        hasType("{<T:?>-1}", "i");
+        hasType("{<T:?><1}", "b");
+        hasType("[<1:?>?T:<1:?>]", "b");
+        hasType("[T?<1:?>:T]", "?");
+        hasType("@<1:?>", "&?");
+        hasType("@\\x:?.x", "&(?>?)");
+        hasType("!@T", "b");
+        hasType("!<1:?>", "?");
+        hasType("<1:?>", "?");
+        hasType("<\\x:i.x:(?>i)>", "(?>i)");
+        hasType("$<T:?>", "i");
+    }
+
+    private static void hasType(String text, String type) {
+        BlameDesk desk = Due.desk(text);
+        for (int k = 0; k < type.length(); k++) {
+            DUE.is("type(" + k + ") of " + text, desk.type(k), type.charAt(k));
+        }
+        DUE.is("type(" + type.length() + ") of " + text, desk.type(type.length()), -1);
+    }
+
     // "a variable that of the innermost function around it that has it, an error at it if there is none"
     private static void variableThatNoFunctionHas() {
         noErrorIn("\\x:i.x", "\\x:b.\\x:i.$x", "\\x:i.\\y:b.$x", "(\\y:(i>i).y \\x:i.$x)");
@@ -319,6 +377,7 @@ public final class TermsTest {
     // "(E F): with E of (t>u), F must be consistent with t ...; with E of ? ...; else an error at E."
     private static void callOfWhatIsNoFunction() {
         noErrorIn("(\\x:i.x 1)", "(\\x:i.x <1:?>)", "(\\x:?.x T)", "(<1:?> T)", "(<1:?> \\x:i.x)");
+        gives("(<\\x:?.x:?> 5)", 0, 5, 1);
         errorAt(1, "(1 1)", "(T 1)", "(@1 1)", "(@\\x:i.x 1)", "({1+1} T)");
         errorAt(8, "(\\x:i.x T)", "(\\x:i.x @1)", "(\\x:b.x 1)");
         errorAt(12, "(\\x:(i>i).x \\x:b.1)");
@@ -327,6 +386,7 @@ public final class TermsTest {
     // "(E=F): with E of &t, F must be consistent with t ...; with E of ? ...; else an error at E."
     private static void writeToWhatIsNoCell() {
         noErrorIn("(@1=2)", "(@1=<2:?>)", "(@<1:?>=T)", "(<1:?>=T)", "(<1:?>=\\x:i.x)");
+        gives("(<@<1:?>:?>=5)", 0, 5, 1);
         errorAt(1, "(1=1)", "(T=1)", "(\\x:i.x=1)", "(!@1=1)");
         errorAt(4, "(@1=T)", "(@T=1)", "(@1=@1)");
         errorAt(5, "(@@1=@T)");
@@ -412,6 +472,15 @@ public final class TermsTest {
         putsOut("[{$2<$1}?$3:$4]", 1, 2, 1, 4);
         gives("[T?1:<T:?>]", 0, 1, 0);
         gives("[F?<<1:?>:b>:T]", 1, 1, 0);
+    }
+
+    // {E<F} at its boundary.
+    private static void lessIsNotEqual() {
+        gives("{1<2}", 1, 1, 0);
+        gives("{2<2}", 1, 0, 0);
+        gives("{3<2}", 1, 0, 0);
+        gives("{{0-1}<0}", 1, 1, 0);
+        gives("{0<{0-1}}", 1, 0, 0);
     }
 
     // "... a function's body when it is called."
@@ -627,6 +696,13 @@ public final class TermsTest {
         ends("(\\c:&&i." + rounds(written) + " @@1)", 28, 4);
         ends("(\\c:&&i." + roundsBehindOneCast(written) + " @@1)", 26, 3);
         ends("(\\c:&&i." + roundsBehindOneCast(written) + " @@1)", 27, 4);
+    }
+
+    private static void twoHundredCastsAroundOneCell() {
+        // Each round puts eight casts more around the cell in the cell, and reads it through all of them.
+        BlameDesk desk = ends("(\\c:&&i." + rounds("$!(c=" + "<".repeat(8) + "!c" + ":&?>:&i>".repeat(4) + ")") + " @@{!@5+1})", 27, 3);
+        DUE.is("outputs through all casts", desk.output(-1), 25);
+        DUE.is("the output through 200 casts", desk.output(0), 6);
     }
 
     // "... in this run ..."
