@@ -169,18 +169,22 @@ public final class BlameDesk {
             return shape[t];
         }
 
-        /** Whether two types are; the depth, 0 for a whole type, keeps the recursion low. */
-        boolean areConsistent(int t, int u, int depth) {
+        boolean areConsistent(int t, int u) {
+            return partsAreConsistent(t, u, 1);
+        }
+
+        /** Whether two types are that stand as deep in two whole ones; the depth keeps the recursion low. */
+        private boolean partsAreConsistent(int t, int u, int depth) {
             if (t == u || t == OPEN || u == OPEN) {
                 return true;
             }
             if (shape[t] != shape[u] || depth > MAX_HEIGHT) {
                 return false;
             }
-            if (shape[t] == FUNCTION && !areConsistent(left[t], left[u], depth + 1)) {
+            if (shape[t] == FUNCTION && !partsAreConsistent(left[t], left[u], depth + 1)) {
                 return false;
             }
-            return areConsistent(right[t], right[u], depth + 1);
+            return partsAreConsistent(right[t], right[u], depth + 1);
         }
 
         /** The code of character k of t as it is written. */
@@ -594,7 +598,7 @@ public final class BlameDesk {
         }
 
         private int require(int part, int t) {
-            if (!types.areConsistent(program.type[part], t, 0)) {
+            if (!types.areConsistent(program.type[part], t)) {
                 return part;
             }
             program.castType[part] = t;
